@@ -239,14 +239,14 @@ public final class Sowingcourt {
             return game.now.lead();
         }
         search.weigh(game.now, depth);
-        return search.freeCount == 0 ? game.now.lead() : search.top;
+        return search.topCount == 0 ? game.now.lead() : search.top;
     }
 
     public int best(int depth) throws IllegalStateException, IllegalArgumentException, NoSuchElementException {
         needGameOn();
         needDepth(depth, 1);
         search.weigh(game.now, depth);
-        if (search.freeCount == 0) {
+        if (search.topCount == 0) {
             throw new NoSuchElementException("all holes are barred");
         }
         return search.firstTop;
@@ -593,13 +593,13 @@ public final class Sowingcourt {
         }
 
         boolean isOfMover(int hole) {
-            int first = firstHoleOf(mover());
+            int first = cells[TURN] * kind.holesEach;
             return hole >= first && hole < first + kind.holesEach;
         }
 
         int seedsOf(int player) {
             int sum = 0;
-            int first = firstHoleOf(player);
+            int first = player * kind.holesEach;
             for (int hole = first; hole < first + kind.holesEach; hole++) {
                 sum += cells[hole];
             }
@@ -661,9 +661,19 @@ public final class Sowingcourt {
 
         /** Sows lap behind lap, and tells whether that has an end. */
         private boolean sow(int hole) {
+            boolean isSkipped = kind.rules[Kind.SKIPPED_ORIGIN];
             int origin = hole;
             for (lapCount = 1; lapCount <= MOST_LAPS; lapCount++) {
-                sowLap(origin);
+                int hand = cells[origin];
+                cells[origin] = 0;
+                last = origin;
+                for (; hand > 0; hand--) {
+                    last = placeBehind(last);
+                    if (last == origin && isSkipped) {
+                        last = placeBehind(last);
+                    }
+                    cells[last]++;
+                }
                 origin = nextOrigin();
                 if (origin == NONE) {
                     return true;
@@ -672,30 +682,13 @@ public final class Sowingcourt {
             return false;
         }
 
-        private void sowLap(int origin) {
-            int hand = cells[origin];
-            cells[origin] = 0;
-            int place = origin;
-            for (; hand > 0; hand--) {
-                place = placeBehind(place);
-                if (place == origin && kind.rules[Kind.SKIPPED_ORIGIN]) {
-                    place = placeBehind(place);
-                }
-                cells[place]++;
-            }
-            last = place;
-        }
-
         private int placeBehind(int place) {
-            int lastOwn = firstHoleOf(mover()) + kind.holesEach - 1;
+            int lastOwn = (cells[TURN] + 1) * kind.holesEach - 1;
             if (place == lastOwn && kind.rules[Kind.OWN_STORES]) {
-                return STORES + mover();
+                return STORES + cells[TURN];
             }
-            return holeBehind(place >= STORES ? lastOwn : place);
-        }
-
-        private int holeBehind(int hole) {
-            return hole + 1 < kind.holesInAll() ? hole + 1 : 0;
+            int hole = place >= STORES ? lastOwn : place;
+            return hole + 1 < 2 * kind.holesEach ? hole + 1 : 0;
         }
 
         private int nextOrigin() {
@@ -705,12 +698,12 @@ public final class Sowingcourt {
             if (kind.lap == 'r') {
                 return cells[last] > 1 ? last : NONE;
             }
-            int behind = holeBehind(last);
+            int behind = last + 1 < 2 * kind.holesEach ? last + 1 : 0;
             return kind.lap == 'p' && cells[behind] > 0 ? behind : NONE;
         }
 
         private void takeCaptured() {
-            int lowest = last < STORES ? lowestCaught() : NONE;
+            int lowest = last < STORES ? lowestCaught(isOfMover(last)) : NONE;
             if (lowest == NONE) {
                 return;
             }
@@ -734,24 +727,19 @@ public final class Sowingcourt {
         }
 
         /** The lowest hole of the other player that is captured. */
-        private int lowestCaught() {
-            boolean own = isOfMover(last);
+        private int lowestCaught(boolean own) {
             if (kind.capture == 'o') {
-                int opposite = kind.holesInAll() - 1 - last;
+                int opposite = 2 * kind.holesEach - 1 - last;
                 return own && cells[last] == 1 && cells[opposite] > 0 ? opposite : NONE;
             }
-            if (own) {
+            if (kind.capture == 'e') {
+                return !own && cells[last] % 2 == 0 ? last : NONE;
+            }
+            if (own || kind.capture != 'c') {
                 return NONE;
             }
-            if (kind.capture == 'e') {
-                return cells[last] % 2 == 0 ? last : NONE;
-            }
-            return kind.capture == 'c' ? lowestOfChain() : NONE;
-        }
-
-        private int lowestOfChain() {
             int lowest = NONE;
-            int first = firstHoleOf(1 - mover());
+            int first = (1 - cells[TURN]) * kind.holesEach;
             for (int hole = last; hole >= first && (cells[hole] == 2 || cells[hole] == 3); hole--) {
                 lowest = hole;
             }
@@ -901,11 +889,9 @@ public final class Sowingcourt {
         final Board[] levels = new Board[MOST_DEPTH + 1];
         final boolean[] free = new boolean[MOST_HOLES];
         final int[] worth = new int[MOST_HOLES];
-        /** On this level so many moves are made as the depth asks for. */
-        int lastLevel;
-        int freeCount;
         int top;
         int firstTop;
+        /** How many holes come to the top; none only if all are barred. */
         int topCount;
 
         Search(Kind kind) {
@@ -916,14 +902,12 @@ public final class Sowingcourt {
 
         /** Finds the value by each hole that is not barred, for a depth from 1 to 5. */
         void weigh(Board root, int depth) {
-            lastLevel = depth - 1;
-            freeCount = 0;
             topCount = 0;
             top = BELOW_ALL;
             for (int hole = 0; hole < root.kind.holesInAll(); hole++) {
                 free[hole] = root.whyBarred(hole, levels[0]) == FREE;
                 if (free[hole]) {
-                    int found = look(0, BELOW_ALL, -BELOW_ALL);
+                    int found = look(levels, 0, depth - 1, BELOW_ALL, -BELOW_ALL);
                     worth[hole] = levels[0].mover() == root.mover() ? found : -found;
                     rank(hole);
                 }
@@ -931,7 +915,6 @@ public final class Sowingcourt {
         }
 
         private void rank(int hole) {
-            freeCount++;
             if (worth[hole] > top) {
                 top = worth[hole];
                 firstTop = hole;
@@ -942,10 +925,10 @@ public final class Sowingcourt {
         }
 
         /** The value for the mover on a level; what is outside of low and high is told only as that. */
-        private int look(int level, int low, int high) {
+        private static int look(Board[] levels, int level, int left, int low, int high) {
             Board here = levels[level];
             Board behind = levels[level + 1];
-            if (level >= lastLevel) {
+            if (left <= 0 || level + 2 >= levels.length) {
                 return here.isStuck(behind) ? here.leadAtEnd() : here.lead();
             }
             int best = BELOW_ALL;
@@ -954,8 +937,8 @@ public final class Sowingcourt {
                 if (here.whyBarred(hole, behind) == FREE) {
                     int least = Math.max(low, best);
                     int found = behind.mover() == here.mover()
-                            ? look(level + 1, least, high)
-                            : -look(level + 1, -high, -least);
+                            ? look(levels, level + 1, left - 1, least, high)
+                            : -look(levels, level + 1, left - 1, -high, -least);
                     best = Math.max(best, found);
                 }
             }
@@ -971,7 +954,7 @@ public final class Sowingcourt {
         Rows() {
             ways[0][0] = 1;
             for (int holes = 1; holes <= MOST_HOLES; holes++) {
-                ways[holes][0] = 1;
+                ways[holes][0] = ways[holes - 1][0];
                 for (int seeds = 1; seeds <= MOST_SEEDS; seeds++) {
                     ways[holes][seeds] = ways[holes][seeds - 1] + ways[holes - 1][seeds];
                 }

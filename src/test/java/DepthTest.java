@@ -10,6 +10,7 @@ public final class DepthTest {
         seedsOfAnEnd();
         extraTurns();
         allBarred();
+        allBarredBehindOtherQuestions();
         refusals();
         asTheOracleSays();
         nothingChanges();
@@ -85,6 +86,17 @@ public final class DepthTest {
                         UnsupportedOperationException.class);
             }
         }
+    }
+
+    private static void allBarredBehindOtherQuestions() {
+        Sowingcourt x = Table.game('s', 'e', "", 1, 1, 1, 1);
+        due.is("isPuzzle(1)", x.isPuzzle(1), true);
+        x.start(0);
+        x.give(0, 0);
+        x.give(1, 0);
+        due.is("isPuzzle(1) with all barred", x.isPuzzle(1), false);
+        due.is("value(1) with all barred", x.value(1), 0);
+        due.fails("best(1) with all barred", () -> x.best(1), NoSuchElementException.class);
     }
 
     private static void refusals() {

@@ -134,6 +134,9 @@ public final class EndsTest {
         y.move(1);
         y.move(2);
         due.is("winner() is player 1", y.winner(), 1);
+        Sowingcourt one = Table.game('s', 'n', "", 1, 0, 0, 0);
+        one.move(0);
+        due.is("winner() by one seed", one.winner(), 0);
     }
 
     private static void lapsOfTheLastMove() {

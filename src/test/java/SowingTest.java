@@ -168,6 +168,7 @@ public final class SowingTest {
         due.is("100 laps are not endless", most.barred(0), '-');
         most.move(0);
         due.is("laps()", most.laps(), 100);
+        due.is("101 laps are endless", Table.game('p', 'n', "", 5, 1, 2, 6, 2, 4).barred(1), 'l');
         Sowingcourt fed = Table.game('p', 'n', "f", 2, 1, 0, 1);
         due.is("endless with feeding", fed.barred(0), 'l');
     }
