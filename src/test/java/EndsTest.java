@@ -1,4 +1,5 @@
 import java.util.NoSuchElementException;
+import java.util.Random;
 
 /** Promises 16 to 21: turns, ends, winners, laps, lengths and positions that come again. */
 public final class EndsTest {
@@ -13,6 +14,7 @@ public final class EndsTest {
         winners();
         lapsOfTheLastMove();
         handicapsDoNotEnd();
+        longGames();
         due.end();
     }
 
@@ -160,6 +162,31 @@ public final class EndsTest {
         due.is("laps() of a second move", y.laps(), 1);
         y.undo();
         due.is("laps() of the first one", y.laps(), 2);
+    }
+
+    /** As long as an object is used, and longer: then a move is refused, and all else still answers. */
+    private static void longGames() {
+        Sowingcourt x = Table.court(5, 5, 's', 'n', "");
+        x.start(0);
+        Random random = new Random(7);
+        int[] holes = new int[512];
+        for (int i = 0; i < 512; i++) {
+            do {
+                holes[i] = random.nextInt(10);
+            } while ((x.moves() >> holes[i] & 1) == 0);
+            x.move(holes[i]);
+        }
+        due.is("length() of a long game", x.length(), 512);
+        due.is("isOver() of a long game", x.isOver(), false);
+        due.is("isSound() of a long game", x.isSound(), true);
+        String state = Table.state(x);
+        due.fails("move behind 512", () -> x.move(Integer.numberOfTrailingZeros(x.moves())),
+                IllegalStateException.class);
+        due.is("the game stays", Table.state(x), state);
+        for (int i = 511; i >= 0; i--) {
+            due.is("undo() of a long game", x.undo(), holes[i]);
+        }
+        due.is("shown", Table.shown(x), "5 5 5 5 5 /5 5 5 5 5 0 0");
     }
 
     private static void handicapsDoNotEnd() {
