@@ -5,9 +5,15 @@ final class Due {
     private final String test;
     private int right;
     private int wrong;
+    private String sentence = "";
 
     Due(String test) {
         this.test = test;
+    }
+
+    /** Says by which words of the document the next answers are due; they are printed with those that are not. */
+    void by(String words) {
+        sentence = " [" + words + "]";
     }
 
     void is(String call, Object got, Object want) {
@@ -15,7 +21,7 @@ final class Due {
             right++;
         } else {
             wrong++;
-            System.out.println(test + ": " + call + " answered " + got + ", due is " + want);
+            System.out.println(test + ": " + call + " answered " + got + ", due is " + want + sentence);
         }
     }
 
