@@ -236,10 +236,10 @@ public final class Sowingcourt {
         needGameOn();
         needDepth(depth, 0);
         if (depth == 0) {
-            return game.now.lead();
+            return game.now.leadOfMover();
         }
         search.weigh(game.now, depth);
-        return search.topCount == 0 ? game.now.lead() : search.top;
+        return search.topCount == 0 ? game.now.leadOfMover() : search.top;
     }
 
     public int best(int depth) throws IllegalStateException, IllegalArgumentException, NoSuchElementException {
@@ -431,7 +431,7 @@ public final class Sowingcourt {
         }
     }
 
-    /** The parent of a kind that is not kind 0. */
+    /** The kind is not kind 0, which has no parent. */
     private int nearestBelow(int kind) {
         int nearest = 0;
         for (int lower = 1; lower < kind; lower++) {
@@ -484,7 +484,7 @@ public final class Sowingcourt {
         return trial.over == game.over && trial.now.isLike(game.now);
     }
 
-    /** What makes a kind: nine things. */
+    /** The nine things of a kind; a game has a copy, since kinds are changed while games go on. */
     private static final class Kind {
         static final int OWN_STORES = 0;
         static final int SKIPPED_ORIGIN = 1;
@@ -610,13 +610,12 @@ public final class Sowingcourt {
             return seedsOf(0) + seedsOf(1);
         }
 
-        /** What the mover's store has more than the other one. */
-        int lead() {
+        int leadOfMover() {
             return storeOf(mover()) - storeOf(1 - mover());
         }
 
-        int leadAtEnd() {
-            return lead() + seedsOf(mover()) - seedsOf(1 - mover());
+        int leadOfMoverAtEnd() {
+            return leadOfMover() + seedsOf(mover()) - seedsOf(1 - mover());
         }
 
         void endGame() {
@@ -637,7 +636,7 @@ public final class Sowingcourt {
                 return 'e';
             }
             behind.copyFrom(cells, 0);
-            if (!behind.sow(hole)) {
+            if (!behind.sowsToAnEnd(hole)) {
                 return 'l';
             }
             behind.takeCaptured();
@@ -659,8 +658,7 @@ public final class Sowingcourt {
             return true;
         }
 
-        /** Sows lap behind lap, and tells whether that has an end. */
-        private boolean sow(int hole) {
+        private boolean sowsToAnEnd(int hole) {
             boolean isSkipped = kind.rules[Kind.SKIPPED_ORIGIN];
             int origin = hole;
             for (lapCount = 1; lapCount <= MOST_LAPS; lapCount++) {
@@ -726,7 +724,7 @@ public final class Sowingcourt {
             cells[STORES + mover()] += caught;
         }
 
-        /** The lowest hole of the other player that is captured. */
+        /** What is captured there is a row of holes with a known last one, so its lowest hole tells it. */
         private int lowestCaught(boolean own) {
             if (kind.capture == 'o') {
                 int opposite = 2 * kind.holesEach - 1 - last;
@@ -900,7 +898,7 @@ public final class Sowingcourt {
             }
         }
 
-        /** Finds the value by each hole that is not barred, for a depth from 1 to 5. */
+        /** Blunders need the value by each hole, so each is looked at in full; the depth is 1 to 5. */
         void weigh(Board root, int depth) {
             topCount = 0;
             top = BELOW_ALL;
@@ -929,7 +927,7 @@ public final class Sowingcourt {
             Board here = levels[level];
             Board behind = levels[level + 1];
             if (left <= 0 || level + 2 >= levels.length) {
-                return here.isStuck(behind) ? here.leadAtEnd() : here.lead();
+                return here.isStuck(behind) ? here.leadOfMoverAtEnd() : here.leadOfMover();
             }
             int best = BELOW_ALL;
             int first = here.firstHoleOf(here.mover());
@@ -942,7 +940,7 @@ public final class Sowingcourt {
                     best = Math.max(best, found);
                 }
             }
-            return best == BELOW_ALL ? here.leadAtEnd() : best;
+            return best == BELOW_ALL ? here.leadOfMoverAtEnd() : best;
         }
     }
 
